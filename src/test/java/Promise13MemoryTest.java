@@ -1,0 +1,111 @@
+public final class Promise13MemoryTest {
+    public static void main(String[] args) {
+        Script script = new Script("promise 13");
+        script.fresh("handler(0, 2, 1, 0, 1)=true step(0, 0, 2)=1 memory(0, 0)=NONE memory(0, -1)=REFUSED"
+                + " memory(0, 6)=REFUSED memory(0, MAX)=REFUSED memory(0, MIN)=REFUSED memory(1, 0)=REFUSED"
+                + " memory(-1, 0)=REFUSED memory(8, 0)=REFUSED memory(MAX, 0)=REFUSED memory(MIN, 6)=REFUSED"
+                + " begin(1, 0)=1 memory(0, 5)=NONE call(0)=1 memory(0, 0)=NONE memory(0, 1)=NONE memory(0, 2)=NONE"
+                + " memory(0, 3)=NONE memory(0, 6)=REFUSED run(1)=1 memory(0, 0)=1 memory(0, 1)=20 memory(0, 2)=0"
+                + " memory(0, 3)=0 memory(0, 4)=NONE memory(0, 5)=NONE call(0)=2 run(1)=1 memory(0, 0)=NONE"
+                + " memory(0, 5)=NONE");
+        areas(script);
+        objects(script);
+        locks(script);
+        memoryFaults(script);
+        leaving(script);
+        pointing(script);
+        script.end();
+    }
+
+    private static void areas(Script script) {
+        // 20: NEW 3, ENTER 10: 7 left outside; inside NEW 4, ENTER 6: 0 left; back, and back.
+        script.fresh("handler(0, 2, 1, 0, 1)=true step(0, 1, 3)=1 step(0, 3, 10)=2 step(0, 1, 4)=3 step(0, 3, 6)=4"
+                + " step(0, 1, 6)=5 step(0, 0, 1)=6 step(0, 4, 0)=7 step(0, 0, 1)=8 step(0, 4, 0)=9 step(0, 0, 2)=10"
+                + " begin(1, 0)=1 call(0)=1 run(1)=1 memory(0, 0)=3 memory(0, 1)=0 memory(0, 2)=3 memory(0, 5)=6"
+                + " run(1)=1 memory(0, 0)=2 memory(0, 1)=6 memory(0, 2)=2 memory(0, 5)=4"
+                + " run(1)=1 memory(0, 0)=1 memory(0, 1)=17 memory(0, 2)=1 memory(0, 5)=3 desk(8)=3 run(1)=1 of(0, 9)=1");
+        // The area of a release takes nothing of the mission's, and the next release has its own.
+        script.fresh("handler(0, 2, 1, 0, 1)=true limit(0, 0, -1, 60)=true step(0, 1, 20)=1 step(0, 0, 2)=2 begin(1, 5)=1"
+                + " call(0)=1 call(0)=2 run(1)=1 memory(0, 1)=40 desk(6)=5 run(2)=2 memory(0, 0)=1 memory(0, 1)=40"
+                + " memory(0, 2)=1");
+        // Ten areas inside the first one.
+        script.fresh("handler(0, 2, 1, 0, 1)=true step(0, 3, 9)=1 step(0, 3, 8)=2 step(0, 3, 7)=3 step(0, 3, 6)=4"
+                + " step(0, 3, 5)=5 step(0, 3, 4)=6 step(0, 3, 3)=7 step(0, 3, 2)=8 step(0, 3, 1)=9 step(0, 0, 2)=10"
+                + " begin(1, 0)=1 call(0)=1 run(1)=1 memory(0, 0)=10 memory(0, 1)=1");
+        script.fresh("handler(0, 2, 1, 0, 1)=true step(0, 3, 10)=1 step(0, 3, 10)=2 step(0, 3, 10)=3 step(0, 3, 10)=4"
+                + " step(0, 3, 10)=5 step(0, 3, 10)=6 step(0, 3, 10)=7 step(0, 3, 10)=8 step(0, 3, 10)=9"
+                + " step(0, 3, 10)=10 begin(1, 0)=1 call(0)=1 run(1)=1 of(0, 9)=1 of(0, 12)=0");
+    }
+
+    private static void objects(Script script) {
+        // Kept ones count for 5, but not for 2; they take of the mission's room and stay.
+        script.fresh("handler(0, 2, 1, 0, 1)=true step(0, 1, 2)=1 step(0, 3, 9)=2 step(0, 2, 7)=3 step(0, 1, 5)=4"
+                + " step(0, 0, 1)=5 step(0, 4, 0)=6 step(0, 0, 2)=7 begin(1, 10)=1 call(0)=1 run(1)=1 memory(0, 1)=4"
+                + " memory(0, 2)=2 memory(0, 5)=5 desk(5)=1 desk(6)=3 run(1)=1 memory(0, 1)=18 memory(0, 2)=1"
+                + " memory(0, 5)=7 desk(5)=1 run(1)=1 of(0, 9)=1 desk(5)=1 desk(6)=3 desk(8)=3");
+        // What an earlier release kept is not made by this one.
+        script.then("call(0)=1 run(1)=1 of(0, 12)=1 desk(5)=1 desk(6)=3");
+        script.fresh("handler(0, 2, 1, 0, 1)=true step(0, 0, 2)=1 step(0, 2, 1)=2 begin(1, 9)=1 call(0)=1 call(0)=2"
+                + " run(3)=3 of(0, 9)=1 desk(5)=1 memory(0, 5)=NONE");
+    }
+
+    private static void locks(Script script) {
+        script.fresh("handler(0, 2, 1, 0, 1)=true step(0, 5, 3)=1 step(0, 0, 1)=2 step(0, 5, 0)=3 step(0, 5, 1)=4"
+                + " step(0, 5, 2)=5 step(0, 0, 1)=6 step(0, 6, 2)=7 step(0, 6, 1)=8 step(0, 0, 2)=9"
+                + " begin(1, 10)=1 call(0)=1 run(1)=1 memory(0, 3)=1 memory(0, 4)=3 run(1)=1 memory(0, 3)=4 memory(0, 4)=2"
+                + " run(1)=1 memory(0, 3)=2 memory(0, 4)=0");
+    }
+
+    private static void memoryFaults(Script script) {
+        // As great as the room is fine, one more is not.
+        script.fresh("handler(0, 2, 1, 0, 1)=true limit(0, 0, -1, 5)=true step(0, 1, 5)=1 step(0, 0, 1)=2 begin(1, 0)=1"
+                + " call(0)=1 run(1)=1 of(0, 9)=1");
+        script.fresh("handler(0, 2, 1, 0, 1)=true limit(0, 0, -1, 5)=true step(0, 1, 6)=1 step(0, 0, 1)=2 begin(1, 0)=1"
+                + " call(0)=1 run(1)=1 of(0, 9)=0 of(0, 12)=1 desk(8)=0 event(0)=32 of(0, 3)=0 of(0, 15)=0");
+        script.fresh("handler(0, 2, 1, 0, 1)=true limit(0, 0, -1, 5)=true step(0, 3, 5)=1 step(0, 1, 5)=2 step(0, 4, 0)=3"
+                + " step(0, 1, 5)=4 step(0, 0, 1)=5 begin(1, 0)=1 call(0)=1 run(1)=1 of(0, 9)=1 desk(8)=2");
+        script.fresh("handler(0, 2, 1, 0, 1)=true limit(0, 0, -1, 5)=true step(0, 3, 6)=1 begin(1, 90)=1"
+                + " call(0)=1 run(1)=1 of(0, 12)=1");
+        // The room inside is that of the current area alone.
+        script.fresh("handler(0, 2, 1, 0, 1)=true step(0, 3, 2)=1 step(0, 1, 3)=2 begin(1, 90)=1 call(0)=1 run(1)=1"
+                + " of(0, 12)=1");
+        // Outside, the area inside has taken its room.
+        script.fresh("handler(0, 2, 1, 0, 1)=true step(0, 3, 15)=1 step(0, 4, 0)=2 step(0, 1, 20)=3 begin(1, 90)=1"
+                + " call(0)=1 run(1)=1 of(0, 9)=1");
+        // KEEP looks at the mission's room, not at its own.
+        script.fresh("handler(0, 2, 1, 0, 1)=true limit(0, 0, -1, 0)=true step(0, 2, 6)=1 begin(1, 12)=1 call(0)=1 call(0)=2"
+                + " call(0)=3 run(1)=1 of(0, 9)=2 of(0, 12)=1 desk(5)=2 desk(6)=0 desk(8)=2");
+    }
+
+    private static void leaving(Script script) {
+        script.fresh("handler(0, 2, 1, 0, 1)=true step(0, 3, 2)=1 step(0, 4, 0)=2 step(0, 4, 0)=3 step(0, 0, 1)=4"
+                + " begin(1, 0)=1 call(0)=1 run(1)=1 of(0, 13)=1 of(0, 9)=0 of(0, 15)=0 event(0)=32");
+    }
+
+    private static void pointing(Script script) {
+        point(script, "step(0, 9, 0)", 0, 1);
+        point(script, "step(0, 1, 1) step(0, 9, 0)", 0, 1);
+        point(script, "step(0, 1, 1) step(0, 1, 1) step(0, 9, 0) step(0, 9, 1)", 2, 0);
+        // Inside out is fine, outside in is not.
+        point(script, "step(0, 1, 1) step(0, 3, 5) step(0, 1, 1) step(0, 9, 0)", 1, 0);
+        point(script, "step(0, 1, 1) step(0, 3, 5) step(0, 1, 1) step(0, 9, 1)", 0, 1);
+        point(script, "step(0, 1, 1) step(0, 3, 5) step(0, 3, 4) step(0, 1, 1) step(0, 9, 0) step(0, 9, 1)", 1, 1);
+        // An own one may point to a kept one, not the other way; two kept ones to each other.
+        point(script, "step(0, 1, 1) step(0, 2, 1) step(0, 9, 1) step(0, 9, 0)", 1, 1);
+        point(script, "step(0, 2, 1) step(0, 1, 1) step(0, 9, 0) step(0, 9, 1)", 1, 1);
+        point(script, "step(0, 2, 1) step(0, 3, 5) step(0, 2, 1) step(0, 9, 0) step(0, 9, 1)", 2, 0);
+        // Those of an area that is gone are gone; the kept one in between is there still.
+        point(script, "step(0, 1, 1) step(0, 3, 5) step(0, 1, 1) step(0, 4, 0) step(0, 9, 0)", 0, 1);
+        point(script, "step(0, 1, 1) step(0, 3, 5) step(0, 2, 1) step(0, 1, 1) step(0, 4, 0) step(0, 9, 1)", 1, 0);
+        point(script, "step(0, 1, 1) step(0, 3, 5) step(0, 1, 1) step(0, 4, 0) step(0, 3, 5) step(0, 1, 1)"
+                + " step(0, 9, 0) step(0, 9, 1)", 1, 1);
+        // Objects of another release do not count.
+        script.fresh("handler(0, 2, 1, 0, 1)=true step(0, 2, 1)=1 step(0, 9, 0)=2 begin(1, 9)=1 call(0)=1 call(0)=2"
+                + " run(1)=1 of(0, 13)=2 desk(5)=2 desk(7)=0");
+    }
+
+    private static void point(Script script, String steps, int pointed, int faults) {
+        script.fresh("handler(0, 2, 1, 0, 1)=true " + steps + " begin(1, 50)=1 call(0)=1 run(1)=1 desk(7)=" + pointed
+                + " of(0, 13)=" + faults + " of(0, 12)=0 of(0, 9)=" + (1 - faults));
+    }
+}
