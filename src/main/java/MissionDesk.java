@@ -618,7 +618,7 @@ public final class MissionDesk {
         }
     }
 
-    /** The releases of one handler that are not done, as a ring whose rows are used again. */
+    /** The releases of one handler that are not done: a ring of a power of two, whose rows are used again. */
     private static final class Line {
         final Release[] ring;
         int head;
@@ -961,6 +961,7 @@ public final class MissionDesk {
         }
     }
 
+    /** The latest events, in a ring of a power of two. */
     private static final class Journal {
         final int[] ring;
         int noted;

@@ -14,6 +14,7 @@ public final class Promise13MemoryTest {
         memoryFaults(script);
         leaving(script);
         pointing(script);
+        nothingOfEarlierReleases(script);
         script.end();
     }
 
@@ -43,8 +44,16 @@ public final class Promise13MemoryTest {
                 + " step(0, 0, 1)=5 step(0, 4, 0)=6 step(0, 0, 2)=7 begin(1, 10)=1 call(0)=1 run(1)=1 memory(0, 1)=4"
                 + " memory(0, 2)=2 memory(0, 5)=5 desk(5)=1 desk(6)=3 run(1)=1 memory(0, 1)=18 memory(0, 2)=1"
                 + " memory(0, 5)=7 desk(5)=1 run(1)=1 of(0, 9)=1 desk(5)=1 desk(6)=3 desk(8)=3");
+        // A kept one that was made last stays the latest when the area with an earlier one is gone.
+        script.fresh("handler(0, 2, 1, 0, 1)=true step(0, 1, 2)=1 step(0, 3, 9)=2 step(0, 1, 5)=3 step(0, 2, 7)=4"
+                + " step(0, 4, 0)=5 step(0, 0, 2)=6 begin(1, 10)=1 call(0)=1 run(1)=1 memory(0, 2)=1 memory(0, 5)=7");
+        objectsOfEarlierReleases(script);
+    }
+
+    private static void objectsOfEarlierReleases(Script script) {
         // What an earlier release kept is not made by this one.
-        script.then("call(0)=1 run(1)=1 of(0, 12)=1 desk(5)=1 desk(6)=3");
+        script.fresh("handler(0, 2, 1, 0, 1)=true step(0, 2, 7)=1 step(0, 0, 1)=2 begin(1, 10)=1 call(0)=1 run(1)=1"
+                + " call(0)=1 run(1)=1 of(0, 12)=1 desk(5)=1 desk(6)=3");
         script.fresh("handler(0, 2, 1, 0, 1)=true step(0, 0, 2)=1 step(0, 2, 1)=2 begin(1, 9)=1 call(0)=1 call(0)=2"
                 + " run(3)=3 of(0, 9)=1 desk(5)=1 memory(0, 5)=NONE");
     }
@@ -97,11 +106,28 @@ public final class Promise13MemoryTest {
         // Those of an area that is gone are gone; the kept one in between is there still.
         point(script, "step(0, 1, 1) step(0, 3, 5) step(0, 1, 1) step(0, 4, 0) step(0, 9, 0)", 0, 1);
         point(script, "step(0, 1, 1) step(0, 3, 5) step(0, 2, 1) step(0, 1, 1) step(0, 4, 0) step(0, 9, 1)", 1, 0);
+        point(script, "step(0, 1, 1) step(0, 3, 5) step(0, 1, 1) step(0, 2, 1) step(0, 4, 0) step(0, 9, 1) step(0, 9, 0)",
+                1, 1);
         point(script, "step(0, 1, 1) step(0, 3, 5) step(0, 1, 1) step(0, 4, 0) step(0, 3, 5) step(0, 1, 1)"
                 + " step(0, 9, 0) step(0, 9, 1)", 1, 1);
         // Objects of another release do not count.
         script.fresh("handler(0, 2, 1, 0, 1)=true step(0, 2, 1)=1 step(0, 9, 0)=2 begin(1, 9)=1 call(0)=1 call(0)=2"
                 + " run(1)=1 of(0, 13)=2 desk(5)=2 desk(7)=0");
+    }
+
+    /** Four are in line at most, so that the fifth one would find what the first one left. */
+    private static void nothingOfEarlierReleases(Script script) {
+        script.fresh("handler(0, 2, 1, 0, 1)=true step(0, 0, 1)=1 step(0, 1, 7)=2 step(0, 5, 1)=3 step(0, 3, 4)=4"
+                + " step(0, 1, 2)=5 step(0, 0, 1)=6 begin(1, 0)=1");
+        for (int n = 1; n <= 6; n++) {
+            script.then("memory(0, 0)=NONE memory(0, 3)=NONE call(0)=1 memory(0, 0)=NONE memory(0, 5)=NONE of(0, 4)=0"
+                    + " of(0, 6)=1 run(1)=1 memory(0, 0)=1 memory(0, 1)=20 memory(0, 2)=0 memory(0, 3)=0 memory(0, 4)=NONE"
+                    + " memory(0, 5)=NONE run(1)=1 of(0, 9)=" + n);
+        }
+        script.then("stop()=true handler(0, 2, 1, 0, 1)=true step(0, 9, 0)=1 begin(1, 0)=2");
+        for (int n = 1; n <= 4; n++) {
+            script.then("call(0)=1 run(1)=1 of(0, 13)=" + n + " desk(7)=0");
+        }
     }
 
     private static void point(Script script, String steps, int pointed, int faults) {
