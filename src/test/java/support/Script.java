@@ -1,13 +1,14 @@
+import java.util.Arrays;
 import java.util.regex.Matcher;
 import java.util.regex.Pattern;
 
 /**
  * Runs of calls written as text: "begin(1, 10)=1 run(1)=1 desk(4)=NONE". A call without "=" may
- * answer anything; true counts 1 and false 0; "new" makes a new object.
+ * answer anything; true counts 1 and false 0.
  */
 final class Script {
     private static final Pattern CALL =
-            Pattern.compile("\\s*(?:(new)\\b|(\\w+)\\(([^)]*)\\)(?:=(-?\\w+))?)");
+            Pattern.compile("\\s*(\\w+)\\(([^)]*)\\)(?:=(-?\\w+))?");
 
     private final String name;
     private MissionDesk desk = new MissionDesk();
@@ -18,7 +19,7 @@ final class Script {
         this.name = name;
     }
 
-    /** Goes on with the object of the last part, unless the text says new. */
+    /** Goes on with the object of the last part. */
     Script then(String text) {
         Matcher matcher = CALL.matcher(text);
         int at = 0;
@@ -27,11 +28,7 @@ final class Script {
                 throw new IllegalArgumentException("not a call: " + text.substring(at));
             }
             at = matcher.end();
-            if (matcher.group(1) != null) {
-                desk = new MissionDesk();
-            } else {
-                check(matcher.group(2), numbers(matcher.group(3)), matcher.group(4));
-            }
+            check(matcher.group(1), numbers(matcher.group(2)), matcher.group(3));
         }
         return this;
     }
@@ -47,7 +44,7 @@ final class Script {
         int got = answer(desk, method, args);
         if (want != null && got != number(want)) {
             wrong++;
-            System.out.println(name + ": " + method + java.util.Arrays.toString(args)
+            System.out.println(name + ": " + method + Arrays.toString(args)
                     + " answered " + got + ", due is " + want);
             new Throwable().printStackTrace(System.out);
         }
