@@ -2,15 +2,17 @@ import java.util.ArrayList;
 import java.util.Arrays;
 import java.util.List;
 
-/** Long runs of drawn calls: MissionDesk and Model must answer alike, and look alike after each call. */
+/** Runs of drawn calls: MissionDesk and Model must answer alike, and look alike in the end. */
 public final class ModelRunsTest {
-    private static final int RUNS = 1500;
-    private static final int CHANGES = 220;
+    private static final int RUNS = 20000;
+    /** A change makes at most 13 calls and the last look 223, so that an object has at most 512. */
+    private static final int CALLS_OF_CHANGES = 270;
     private static final int[] ODD = {-1, -2, 8, 10, 21, 31, 61, 101, Integer.MAX_VALUE, Integer.MIN_VALUE};
 
     private long seed;
     private MissionDesk desk;
     private Model model;
+    private int calls;
     private final List<String> told = new ArrayList<>();
     private final long[] seen = new long[40];
 
@@ -28,11 +30,13 @@ public final class ModelRunsTest {
         desk = new MissionDesk();
         model = new Model();
         told.clear();
+        calls = 0;
         layDown(run % 4 == 3 ? 3 : 8);
-        for (int n = 0; n < CHANGES; n++) {
+        while (calls < CALLS_OF_CHANGES) {
             change();
-            lookAtAll();
+            drawnLook();
         }
+        lookAtAll();
         for (int sort = 8; sort < 16; sort++) {
             for (int h = 0; h < 8; h++) {
                 seen[sort] += model.counts[h][sort];
@@ -155,8 +159,17 @@ public final class ModelRunsTest {
         alike(method, numbers, want, got);
     }
 
+    private void drawnLook() {
+        switch (draw(4)) {
+            case 0: both("desk", draw(14)); break;
+            case 1: both("of", draw(8), draw(16)); break;
+            case 2: both("memory", draw(8), draw(6)); break;
+            default: both("event", draw(32));
+        }
+    }
+
     private void lookAtAll() {
-        for (int what = -1; what <= 14; what++) {
+        for (int what = 0; what <= 13; what++) {
             alike("desk", what);
         }
         for (int h = 0; h < 8; h++) {
@@ -177,6 +190,10 @@ public final class ModelRunsTest {
     }
 
     private void alike(String method, int[] numbers, int want, int got) {
+        calls++;
+        if (calls > Script.CALLS_OF_AN_OBJECT) {
+            throw new IllegalStateException("nothing is promised for so many calls");
+        }
         if (want != got) {
             System.out.println("model runs: after " + told);
             System.out.println(method + Arrays.toString(numbers) + " answered " + got + ", the model " + want);

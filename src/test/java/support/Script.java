@@ -1,4 +1,6 @@
+import java.util.ArrayList;
 import java.util.Arrays;
+import java.util.List;
 import java.util.regex.Matcher;
 import java.util.regex.Pattern;
 
@@ -10,8 +12,29 @@ final class Script {
     private static final Pattern CALL =
             Pattern.compile("\\s*(\\w+)\\(([^)]*)\\)(?:=(-?\\w+))?");
 
+    /** What an object answers behind so many calls is free. */
+    static final int CALLS_OF_AN_OBJECT = 512;
+
+    /** One call; want is null if any answer is fine. */
+    record Call(String method, int[] args, String want) {
+        int on(MissionDesk desk) {
+            return answer(desk, method, args);
+        }
+
+        boolean isDue(int got) {
+            return want == null || got == number(want);
+        }
+
+        @Override
+        public String toString() {
+            return method + Arrays.toString(args);
+        }
+    }
+
     private final String name;
+    private String sentence = "";
     private MissionDesk desk = new MissionDesk();
+    private int callsOfObject;
     private int calls;
     private int wrong;
 
@@ -19,8 +42,22 @@ final class Script {
         this.name = name;
     }
 
+    /** The sentence of the document that the runs behind it are for; told with a wrong answer. */
+    Script about(String sentence) {
+        this.sentence = sentence;
+        return this;
+    }
+
     /** Goes on with the object of the last part. */
     Script then(String text) {
+        for (Call call : calls(text)) {
+            check(call);
+        }
+        return this;
+    }
+
+    static List<Call> calls(String text) {
+        List<Call> calls = new ArrayList<>();
         Matcher matcher = CALL.matcher(text);
         int at = 0;
         while (at < text.length() && !text.substring(at).isBlank()) {
@@ -28,24 +65,39 @@ final class Script {
                 throw new IllegalArgumentException("not a call: " + text.substring(at));
             }
             at = matcher.end();
-            check(matcher.group(1), numbers(matcher.group(2)), matcher.group(3));
+            calls.add(new Call(matcher.group(1), numbers(matcher.group(2)), matcher.group(3)));
         }
-        return this;
+        return calls;
     }
 
     /** A run on a new object. */
     Script fresh(String text) {
         desk = new MissionDesk();
+        callsOfObject = 0;
         return then(text);
     }
 
-    private void check(String method, int[] args, String want) {
+    /** Goes on with the same part again and again. */
+    Script times(int n, String text) {
+        for (int i = 0; i < n; i++) {
+            then(text);
+        }
+        return this;
+    }
+
+    private void check(Call call) {
         calls++;
-        int got = answer(desk, method, args);
-        if (want != null && got != number(want)) {
+        callsOfObject++;
+        if (callsOfObject > CALLS_OF_AN_OBJECT) {
+            throw new IllegalStateException(name + ": nothing is promised for so many calls");
+        }
+        int got = call.on(desk);
+        if (!call.isDue(got)) {
             wrong++;
-            System.out.println(name + ": " + method + Arrays.toString(args)
-                    + " answered " + got + ", due is " + want);
+            System.out.println(name + ": " + call + " answered " + got + ", due is " + call.want());
+            if (!sentence.isEmpty()) {
+                System.out.println("   the document: " + sentence);
+            }
             new Throwable().printStackTrace(System.out);
         }
     }
