@@ -1,6 +1,7 @@
 public final class Promise01NewObjectTest {
     public static void main(String[] args) {
         Script script = new Script("promise 1");
+        script.about("In SETUP, TIME 0; no HANDLERS, no FRAMES, CEILINGS 9.");
         script.fresh("desk(0)=0 desk(1)=0 desk(2)=0 desk(3)=0 desk(4)=NONE desk(5)=0 desk(6)=0"
                 + " desk(7)=0 desk(8)=0 desk(9)=NONE desk(10)=0 desk(11)=0 desk(12)=0 desk(13)=0"
                 + " event(0)=NONE run(1)=NONE stop()=false");

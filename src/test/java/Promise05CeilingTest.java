@@ -1,15 +1,32 @@
 public final class Promise05CeilingTest {
     public static void main(String[] args) {
         Script script = new Script("promise 5");
+        script.about("Lock m (0 to 3) has this CEILING (1 to 9): true; false, changing nothing, if a number is not as said, or the desk is not in SETUP.");
         script.fresh("ceiling(0, 1)=true ceiling(3, 9)=true ceiling(2, 5)=true"
                 + " ceiling(-1, 1)=false ceiling(4, 1)=false ceiling(MAX, 1)=false ceiling(MIN, 1)=false"
                 + " ceiling(0, 0)=false ceiling(0, 10)=false ceiling(0, MAX)=false ceiling(0, MIN)=false"
                 + " begin(1, 0)=1 ceiling(0, 1)=false stop()=true ceiling(0, 1)=true");
+        edges(script);
         changesNothing(script);
         ceilingsOfTheirOwn(script);
         faults(script);
         staysForLaterMissions(script);
         script.end();
+    }
+
+    private static void edges(Script script) {
+        script.about("Lock m (0 to 3) has this CEILING (1 to 9): true");
+        for (int m = 0; m <= 3; m++) {
+            for (int ceiling = 1; ceiling <= 9; ceiling++) {
+                script.fresh("ceiling(" + m + ", " + ceiling + ")=true ceiling(" + m + ", 0)=false ceiling(" + m + ", 10)=false"
+                        + " handler(0, 2, 1, 0, 1)=true step(0, 5, " + m + ")=1 step(0, 0, 2)=2 begin(1, 0)=1 call(0)=1 run(1)=1"
+                        + " of(0, 6)=" + ceiling);
+            }
+        }
+        script.about("false, changing nothing, if a number is not as said, or the desk is not in SETUP.");
+        script.fresh("handler(0, 2, 1, 0, 1)=true step(0, 5, 0)=1 step(0, 0, 2)=2 begin(1, 0)=1 ceiling(0, 5)=false call(0)=1 run(1)=1"
+                + " of(0, 6)=9 ceiling(0, 5)=false of(0, 6)=9 stop()=true desk(0)=2 ceiling(0, 5)=false of(0, 6)=9 run(1)=1"
+                + " ceiling(0, 5)=true begin(1, 0)=2 call(0)=1 run(1)=1 of(0, 6)=5");
     }
 
     private static void changesNothing(Script script) {
@@ -27,6 +44,7 @@ public final class Promise05CeilingTest {
     }
 
     private static void faults(Script script) {
+        script.about("3 LOCK, LOCK of one that it holds already, or that has a CEILING less than its HANDLER's PRIORITY, or UNLOCK of one that is not the latest of those that it holds.");
         // A ceiling equal to the priority is enough, a lower one is not.
         script.fresh("handler(0, 2, 5, 0, 1)=true step(0, 5, 0)=1 step(0, 0, 1)=2 ceiling(0, 5)=true"
                 + " begin(1, 0)=1 call(0)=1 run(1)=1 of(0, 9)=1 of(0, 14)=0");
@@ -52,6 +70,7 @@ public final class Promise05CeilingTest {
     }
 
     private static void staysForLaterMissions(Script script) {
+        script.about("What is laid down in SETUP stays for all MISSIONS.");
         script.fresh("handler(0, 2, 1, 0, 1)=true step(0, 5, 2)=1 step(0, 0, 2)=2 ceiling(2, 7)=true begin(1, 0)=1"
                 + " stop()=true begin(1, 0)=2 call(0)=1 run(1)=1 of(0, 6)=7");
     }

@@ -4,10 +4,12 @@ public final class Promise09RunTest {
 
     public static void main(String[] args) {
         Script script = new Script("promise 9");
+        script.about("So many TICKS (1 to 20), or as many as there are until the MISSION is over: how many. REFUSED if n is not so; NONE in SETUP.");
         script.fresh("run(0)=REFUSED run(1)=NONE run(20)=NONE run(21)=REFUSED begin(1, 0)=1 run(0)=REFUSED"
                 + " run(21)=REFUSED run(-1)=REFUSED run(MAX)=REFUSED run(MIN)=REFUSED desk(1)=0 run(1)=1 desk(1)=1"
                 + " run(20)=20 desk(1)=21 desk(13)=21 stop()=true run(1)=NONE run(0)=REFUSED desk(1)=21"
                 + " begin(1, 0)=2 desk(1)=21 run(2)=2 desk(1)=23");
+        edges(script);
         untilTheMissionIsOver(script);
         fortySteps(script);
         withoutSteps(script);
@@ -16,7 +18,22 @@ public final class Promise09RunTest {
         script.end();
     }
 
+    private static void edges(Script script) {
+        script.about("So many TICKS (1 to 20), or as many as there are until the MISSION is over: how many.");
+        for (int n = 1; n <= 20; n++) {
+            script.fresh("begin(1, 0)=1 run(" + n + ")=" + n + " desk(1)=" + n + " desk(13)=" + n);
+            script.fresh("handler(0, 2, 1, 0, 1)=true step(0, 0, 10)=1 begin(1, 0)=1 call(0)=1 run(1)=1 stop()=true run(" + n + ")="
+                    + Math.min(n, 9) + " desk(0)=" + (n >= 9 ? 0 : 2) + " desk(1)=" + (1 + Math.min(n, 9)));
+        }
+        script.about("REFUSED if n is not so; NONE in SETUP.");
+        for (String n : new String[] {"MIN", "-1", "0", "21", "MAX"}) {
+            script.fresh("run(" + n + ")=REFUSED begin(1, 0)=1 run(" + n + ")=REFUSED desk(1)=0 stop()=true run(" + n + ")=REFUSED"
+                    + " run(1)=NONE desk(1)=0");
+        }
+    }
+
     private static void untilTheMissionIsOver(Script script) {
+        script.about("or as many as there are until the MISSION is over: how many.");
         // The tick in which the mission is over counts still.
         script.fresh("handler(0, 1, 1, 4, 1)=true step(0, 8, 0)=1 begin(1, 0)=1 run(20)=5 desk(0)=0 desk(1)=5"
                 + " desk(13)=5 run(1)=NONE");
@@ -41,6 +58,7 @@ public final class Promise09RunTest {
     }
 
     private static void fortySteps(Script script) {
+        script.about("or 40 STEPS that are not WORK were done in this TICK");
         // 40 steps in all, those with a fault among them: no work in this tick, nor has it begun.
         idleAndWorker(script);
         script.then("begin(1, 0)=1 call(0)=1 call(0)=2 call(0)=3 call(0)=4 call(1)=1 run(1)=1 of(0, 13)=4"
@@ -66,18 +84,21 @@ public final class Promise09RunTest {
     }
 
     private static void withoutSteps(Script script) {
+        script.about("(those with a FAULT count, a RELEASE without STEPS does not)");
         script.fresh("handler(0, 2, 1, 0, 1)=true handler(1, 2, 1, 0, 1)=true begin(1, 0)=1 call(0)=1 call(0)=2"
                 + " call(1)=1 call(0)=3 run(1)=1 of(0, 9)=3 of(1, 9)=1 desk(13)=1 desk(3)=0"
                 + " event(0)=24 event(1)=16 event(2)=25 event(3)=17 event(4)=24 event(5)=16 event(6)=24 event(7)=16");
     }
 
     private static void oneTickOfWork(Script script) {
+        script.about("until one TICK of work was done");
         // Behind the tick of work nothing more is done, even if the next step is not work.
         script.fresh("handler(0, 2, 1, 0, 1)=true step(0, 0, 1)=1 step(0, 1, 1)=2 step(0, 0, 1)=3 begin(1, 0)=1"
                 + " call(0)=1 run(1)=1 desk(8)=0 of(0, 4)=1 run(1)=1 desk(8)=1 of(0, 9)=1 of(0, 15)=2 desk(13)=0");
     }
 
     private static void chosenAnew(Script script) {
+        script.about("a RELEASE is chosen (anew for each STEP)");
         // The called handler with the greater priority goes on before the caller's next step.
         script.fresh("handler(0, 2, 1, 0, 1)=true step(0, 7, 1)=1 step(0, 1, 3)=2 step(0, 0, 1)=3"
                 + " handler(1, 2, 2, 0, 1)=true step(1, 2, 4)=1 begin(1, 4)=1 call(0)=1 run(1)=1"

@@ -1,6 +1,7 @@
 public final class Promise13MemoryTest {
     public static void main(String[] args) {
         Script script = new Script("promise 13");
+        script.about("REFUSED for another what, or if h is not there; NONE if it has none, or that has not BEGUN.");
         script.fresh("handler(0, 2, 1, 0, 1)=true step(0, 0, 2)=1 memory(0, 0)=NONE memory(0, -1)=REFUSED"
                 + " memory(0, 6)=REFUSED memory(0, MAX)=REFUSED memory(0, MIN)=REFUSED memory(1, 0)=REFUSED"
                 + " memory(-1, 0)=REFUSED memory(8, 0)=REFUSED memory(MAX, 0)=REFUSED memory(MIN, 6)=REFUSED"
@@ -8,6 +9,7 @@ public final class Promise13MemoryTest {
                 + " memory(0, 3)=NONE memory(0, 6)=REFUSED run(1)=1 memory(0, 0)=1 memory(0, 1)=20 memory(0, 2)=0"
                 + " memory(0, 3)=0 memory(0, 4)=NONE memory(0, 5)=NONE call(0)=2 run(1)=1 memory(0, 0)=NONE"
                 + " memory(0, 5)=NONE");
+        noneOfThem(script);
         areas(script);
         objects(script);
         locks(script);
@@ -18,7 +20,25 @@ public final class Promise13MemoryTest {
         script.end();
     }
 
+    private static void noneOfThem(Script script) {
+        script.about("NONE if it has none, or that has not BEGUN.");
+        for (int what = 0; what <= 5; what++) {
+            String none = " memory(0, " + what + ")=NONE";
+            script.fresh("handler(0, 2, 1, 0, 1)=true step(0, 2, 1)=1 step(0, 5, 0)=2 step(0, 0, 2)=3" + none + " begin(1, 9)=1" + none
+                    + " call(0)=1" + none + " call(0)=2" + none + " run(2)=2" + none + " run(2)=2" + none + " stop()=true" + none);
+            script.about("REFUSED for another what, or if h is not there");
+            script.then("memory(1, " + what + ")=REFUSED memory(7, " + what + ")=REFUSED memory(8, " + what + ")=REFUSED"
+                    + " memory(-1, " + what + ")=REFUSED memory(0, -1)=REFUSED memory(0, 6)=REFUSED");
+        }
+        script.about("4: the latest of these (NONE without one); 5: the size of the latest OBJECT that it made and that is there still (KEPT ones too; NONE).");
+        script.fresh("handler(0, 2, 1, 0, 1)=true step(0, 0, 1)=1 step(0, 5, 3)=2 step(0, 3, 9)=3 step(0, 1, 4)=4 step(0, 0, 1)=5"
+                + " step(0, 6, 3)=6 step(0, 4, 0)=7 step(0, 0, 1)=8 step(0, 2, 2)=9 step(0, 0, 2)=10 begin(1, 9)=1 call(0)=1 run(1)=1"
+                + " memory(0, 3)=0 memory(0, 4)=NONE memory(0, 5)=NONE run(1)=1 memory(0, 3)=1 memory(0, 4)=3 memory(0, 5)=4 run(1)=1"
+                + " memory(0, 3)=0 memory(0, 4)=NONE memory(0, 5)=NONE memory(0, 2)=0 run(1)=1 memory(0, 5)=2 memory(0, 2)=0");
+    }
+
     private static void areas(Script script) {
+        script.about("what 0: how many AREAS of its own it is in; 1: the room left in the CURRENT one");
         // 20: NEW 3, ENTER 10: 7 left outside; inside NEW 4, ENTER 6: 0 left; back, and back.
         script.fresh("handler(0, 2, 1, 0, 1)=true step(0, 1, 3)=1 step(0, 3, 10)=2 step(0, 1, 4)=3 step(0, 3, 6)=4"
                 + " step(0, 1, 6)=5 step(0, 0, 1)=6 step(0, 4, 0)=7 step(0, 0, 1)=8 step(0, 4, 0)=9 step(0, 0, 2)=10"
@@ -39,6 +59,7 @@ public final class Promise13MemoryTest {
     }
 
     private static void objects(Script script) {
+        script.about("2: how many OBJECTS are in all of these together");
         // Kept ones count for 5, but not for 2; they take of the mission's room and stay.
         script.fresh("handler(0, 2, 1, 0, 1)=true step(0, 1, 2)=1 step(0, 3, 9)=2 step(0, 2, 7)=3 step(0, 1, 5)=4"
                 + " step(0, 0, 1)=5 step(0, 4, 0)=6 step(0, 0, 2)=7 begin(1, 10)=1 call(0)=1 run(1)=1 memory(0, 1)=4"
@@ -51,6 +72,7 @@ public final class Promise13MemoryTest {
     }
 
     private static void objectsOfEarlierReleases(Script script) {
+        script.about("5: the size of the latest OBJECT that it made and that is there still (KEPT ones too; NONE).");
         // What an earlier release kept is not made by this one.
         script.fresh("handler(0, 2, 1, 0, 1)=true step(0, 2, 7)=1 step(0, 0, 1)=2 begin(1, 10)=1 call(0)=1 run(1)=1"
                 + " call(0)=1 run(1)=1 of(0, 12)=1 desk(5)=1 desk(6)=3");
@@ -59,6 +81,7 @@ public final class Promise13MemoryTest {
     }
 
     private static void locks(Script script) {
+        script.about("3: how many locks it holds; 4: the latest of these (NONE without one)");
         script.fresh("handler(0, 2, 1, 0, 1)=true step(0, 5, 3)=1 step(0, 0, 1)=2 step(0, 5, 0)=3 step(0, 5, 1)=4"
                 + " step(0, 5, 2)=5 step(0, 0, 1)=6 step(0, 6, 2)=7 step(0, 6, 1)=8 step(0, 0, 2)=9"
                 + " begin(1, 10)=1 call(0)=1 run(1)=1 memory(0, 3)=1 memory(0, 4)=3 run(1)=1 memory(0, 3)=4 memory(0, 4)=2"
@@ -66,6 +89,7 @@ public final class Promise13MemoryTest {
     }
 
     private static void memoryFaults(Script script) {
+        script.about("1 MEMORY, an OBJECT or AREA is greater than the room that the AREA has left");
         // As great as the room is fine, one more is not.
         script.fresh("handler(0, 2, 1, 0, 1)=true limit(0, 0, -1, 5)=true step(0, 1, 5)=1 step(0, 0, 1)=2 begin(1, 0)=1"
                 + " call(0)=1 run(1)=1 of(0, 9)=1");
@@ -87,11 +111,13 @@ public final class Promise13MemoryTest {
     }
 
     private static void leaving(Script script) {
+        script.about("2 SCOPE, LEAVE in the AREA that it got first");
         script.fresh("handler(0, 2, 1, 0, 1)=true step(0, 3, 2)=1 step(0, 4, 0)=2 step(0, 4, 0)=3 step(0, 0, 1)=4"
                 + " begin(1, 0)=1 call(0)=1 run(1)=1 of(0, 13)=1 of(0, 9)=0 of(0, 15)=0 event(0)=32");
     }
 
     private static void pointing(Script script) {
+        script.about("9 POINT a (0, 1)");
         point(script, "step(0, 9, 0)", 0, 1);
         point(script, "step(0, 1, 1) step(0, 9, 0)", 0, 1);
         point(script, "step(0, 1, 1) step(0, 1, 1) step(0, 9, 0) step(0, 9, 1)", 2, 0);
@@ -117,6 +143,7 @@ public final class Promise13MemoryTest {
 
     /** Four are in line at most, so that the fifth one would find what the first one left. */
     private static void nothingOfEarlierReleases(Script script) {
+        script.about("then all its AREAS are gone, and what it holds is free.");
         script.fresh("handler(0, 2, 1, 0, 1)=true step(0, 0, 1)=1 step(0, 1, 7)=2 step(0, 5, 1)=3 step(0, 3, 4)=4"
                 + " step(0, 1, 2)=5 step(0, 0, 1)=6 begin(1, 0)=1");
         for (int n = 1; n <= 6; n++) {

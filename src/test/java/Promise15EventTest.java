@@ -1,7 +1,9 @@
 public final class Promise15EventTest {
     public static void main(String[] args) {
         Script script = new Script("promise 15");
+        script.about("8 times the sort and the HANDLER of the k-th latest EVENT (0 the latest one); NONE if there is none, or it is not remembered.");
         script.fresh("event(0)=NONE event(-1)=NONE event(31)=NONE event(32)=NONE event(MAX)=NONE event(MIN)=NONE");
+        edges(script);
         // Every sort: 1 came, 2 begun, 3 done.
         script.fresh("handler(5, 2, 1, 0, 1)=true begin(1, 0)=1 call(5)=1 event(0)=13 event(1)=NONE run(1)=1"
                 + " event(0)=29 event(1)=21 event(2)=13 event(3)=NONE event(-1)=NONE event(MIN)=NONE event(MAX)=NONE");
@@ -26,7 +28,26 @@ public final class Promise15EventTest {
         script.end();
     }
 
+    private static void edges(Script script) {
+        script.about("NONE if there is none, or it is not remembered.");
+        script.fresh("handler(0, 2, 1, 0, 1)=true step(0, 0, 1)=1 begin(1, 0)=1");
+        for (int events = 0; events < 3; events++) {
+            for (int k = 0; k < 4; k++) {
+                script.then("event(" + k + ")=" + (k < events ? "8" : "NONE"));
+            }
+            script.then("event(-1)=NONE event(MIN)=NONE event(MAX)=NONE call(0)=" + (events + 1));
+        }
+        script.times(33, "call(0)");
+        for (int k : new int[] {0, 1, 15, 30, 31}) {
+            script.then("event(" + k + ")=48");
+        }
+        for (String k : new String[] {"MIN", "-32", "-1", "32", "33", "63", "64", "MAX"}) {
+            script.then("event(" + k + ")=NONE");
+        }
+    }
+
     private static void theLatest32(Script script) {
+        script.about("EVENTS are remembered, the latest 32");
         script.fresh("handler(1, 2, 1, 0, 1)=true handler(2, 2, 1, 0, 1)=true begin(1, 0)=1");
         for (int n = 0; n < 11; n++) {
             script.then("event(" + 3 * n + ")=NONE call(" + (n % 2 + 1) + ")=1 run(1)=1");
@@ -38,6 +59,7 @@ public final class Promise15EventTest {
     }
 
     private static void staysOverMissions(Script script) {
+        script.about("EVENTS are remembered, the latest 32");
         script.fresh("handler(1, 2, 1, 0, 1)=true begin(1, 0)=1 call(1)=1 event(0)=9 stop()=true event(0)=9 event(1)=NONE"
                 + " begin(1, 0)=2 event(0)=9 handler(1, 2, 1, 0, 1)=false event(0)=9");
     }

@@ -7,6 +7,7 @@ public final class Terms06TickTest {
         Script script = new Script("terms, a tick");
         first(script);
         exactlyAsManyTicksAgo(script);
+        allAtOnce(script);
         withoutADeadline(script);
         inTheOrderInWhichTheyCame(script);
         missHandlers(script);
@@ -49,6 +50,28 @@ public final class Terms06TickTest {
         // One that has not BEGUN can be a MISS, and so can each of the four of a HANDLER.
         script.fresh("handler(0, 2, 1, 0, 1)=true step(0, 0, 9)=1 limit(0, 1, -1, 0)=true begin(1, 0)=1 call(0)=1 call(0)=2"
                 + " call(0)=3 call(0)=4 run(1)=1 of(0, 10)=0 run(1)=1 of(0, 10)=4 run(1)=1 of(0, 10)=4");
+    }
+
+    private static void allAtOnce(Script script) {
+        script.about("Then each RELEASE that is not done, and came exactly as many TICKS ago as the DEADLINE of its HANDLER says");
+        // Four of each of the eight HANDLERS are MISSES in one TICK.
+        script.fresh("");
+        for (int h = 0; h <= 7; h++) {
+            script.then("handler(" + h + ", 2, 1, 0, 1)=true step(" + h + ", 0, 9)=1 limit(" + h + ", 1, -1, 0)=true");
+        }
+        script.then("begin(1, 0)=1");
+        for (int n = 1; n <= 4; n++) {
+            for (int h = 7; h >= 0; h--) {
+                script.then("call(" + h + ")=" + n);
+            }
+        }
+        script.then("run(2)=2");
+        for (int k = 0; k < 32; k++) {
+            script.then("event(" + k + ")=" + (40 + (k & 7)));
+        }
+        for (int h = 0; h <= 7; h++) {
+            script.then("of(" + h + ", 10)=4");
+        }
     }
 
     private static void withoutADeadline(Script script) {
