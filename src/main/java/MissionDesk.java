@@ -431,7 +431,7 @@ public final class MissionDesk {
                 return true;
             } else {
                 others++;
-                takeOtherStep(h);
+                closeStep(h, perform(owner));
             }
         }
         return false;
@@ -469,8 +469,7 @@ public final class MissionDesk {
         }
     }
 
-    private void takeOtherStep(int h) {
-        int fault = perform(handlers[h]);
+    private void closeStep(int h, int fault) {
         if (fault == NO_FAULT) {
             moveOn(h);
         } else {
